@@ -44,6 +44,7 @@ public final class ConkerYard {
     private static final int TOKEN_AT_LEAST = 259;
     private static final int TOKEN_STRANGE_WORD = 260;
     private static final int TOKEN_WORD = 261;
+    private static final int TOKEN_ROUND = TOKEN_WORD + 12;
     private static final int TOKEN_YARD = TOKEN_WORD + 13;
     private static final int TOKEN_CONKER = TOKEN_WORD + 14;
     private static final int TOKEN_CRACKED = TOKEN_WORD + 15;
@@ -82,7 +83,7 @@ public final class ConkerYard {
     private static final int STEP_HIT_IF = 16;
 
     private final Tape tape = new Tape();
-    private final RuleText ruleText = new RuleText(tape);
+    private final RuleText ruleText = new RuleText();
     private final Lot fresh = new Lot();
     private final Rule[] rules = new Rule[RULES_MOST];
     private int rulesMany = 0;
@@ -143,10 +144,11 @@ public final class ConkerYard {
         if (rulesMany < 0 || rulesMany >= RULES_MOST || rules[rulesMany] == null) {
             return NONE;
         }
-        ruleText.readInto(rules[rulesMany]);
+        ruleText.read(tape);
         if (tape.fault != 0) {
             return NO_ONE - tape.fault;
         }
+        rules[rulesMany].become(ruleText.rule);
         tape.length = 0;
         rulesMany++;
         return rulesMany - 1;
@@ -690,11 +692,18 @@ public final class ConkerYard {
             return fault == 0 && at >= 0 && at < many && at < TOKENS_MOST ? kinds[at] : TOKEN_NONE;
         }
 
+        /** One token further; a FAULT and the end stay where they are. */
+        void pass() {
+            if (fault == 0 && at < many - 1) {
+                at++;
+            }
+        }
+
         boolean take(int kind) {
-            if (next() == TOKEN_NONE || next() != kind) {
+            if (next() != kind) {
                 return false;
             }
-            at++;
+            pass();
             return true;
         }
 
@@ -718,7 +727,7 @@ public final class ConkerYard {
                 faultHere(FAULT_NUMBER);
                 return 0;
             }
-            at++;
+            pass();
             return value;
         }
 
@@ -757,7 +766,7 @@ public final class ConkerYard {
             } else if (many || (word == TOKEN_YARD) != (clause == 0)) {
                 tape.faultHere(FAULT_CLAUSE);
             } else {
-                tape.take(word);
+                tape.pass();
                 readNumbers(tape, lot, word);
             }
         }
@@ -786,6 +795,18 @@ public final class ConkerYard {
 
         final int[] steps = new int[STEPS_MOST];
         int length = 0;
+        boolean knowsRound = false;
+
+        void clear() {
+            length = 0;
+            knowsRound = false;
+        }
+
+        void become(Rule other) {
+            System.arraycopy(other.steps, 0, steps, 0, STEPS_MOST);
+            length = other.length;
+            knowsRound = other.knowsRound;
+        }
 
         void add(int step) {
             if (step != STEP_NONE && length >= 0 && length < STEPS_MOST) {
@@ -801,28 +822,22 @@ public final class ConkerYard {
         private static final int DEPTH_MOST = 10;
         private static final int PARTS_MOST = 60;
 
-        private final Tape tape;
-        private Rule rule = null;
+        final Rule rule = new Rule();
         private int parts = 0;
 
-        RuleText(Tape tape) {
-            this.tape = tape;
-        }
-
-        void readInto(Rule into) {
-            rule = into;
-            rule.length = 0;
+        void read(Tape tape) {
+            rule.clear();
             parts = 0;
             tape.split();
             for (int clause = 0; clause <= CLAUSES_MOST; clause++) {
-                readClause(clause);
+                readClause(tape, clause);
                 if (!tape.anotherClause()) {
                     return;
                 }
             }
         }
 
-        private void readClause(int clause) {
+        private void readClause(Tape tape, int clause) {
             if (tape.next() != TOKEN_HIT) {
                 tape.faultHere(FAULT_SIGN);
                 return;
@@ -831,10 +846,10 @@ public final class ConkerYard {
                 tape.faultHere(FAULT_CLAUSE);
                 return;
             }
-            tape.take(TOKEN_HIT);
-            readSum();
+            tape.pass();
+            readSum(tape);
             if (tape.take(TOKEN_IF)) {
-                readTest(0);
+                readTest(tape, 0);
                 rule.add(STEP_HIT_IF);
             } else {
                 rule.add(STEP_HIT);
@@ -842,17 +857,17 @@ public final class ConkerYard {
         }
 
         /** An "or" waits till the PART behind it is at its end. */
-        private void readTest(int depth) {
+        private void readTest(Tape tape, int depth) {
             int waiting = STEP_NONE;
-            readFact(depth);
+            readFact(tape, depth);
             for (int i = 0; i < PARTS_MOST; i++) {
                 if (tape.take(TOKEN_AND)) {
-                    readFact(depth);
+                    readFact(tape, depth);
                     rule.add(STEP_AND);
                 } else if (tape.take(TOKEN_OR)) {
                     rule.add(waiting);
                     waiting = STEP_OR;
-                    readFact(depth);
+                    readFact(tape, depth);
                 } else {
                     break;
                 }
@@ -860,37 +875,36 @@ public final class ConkerYard {
             rule.add(waiting);
         }
 
-        private void readFact(int depth) {
+        private void readFact(Tape tape, int depth) {
             int first = tape.next();
             boolean opens = first == TOKEN_NOT || first == '[';
             if (opens && depth >= DEPTH_MOST) {
                 tape.faultHere(FAULT_DEEP);
             } else if (tape.take(TOKEN_NOT)) {
-                readFact(depth + 1);
+                readFact(tape, depth + 1);
                 rule.add(STEP_NOT);
             } else if (tape.take('[')) {
-                readTest(depth + 1);
+                readTest(tape, depth + 1);
                 if (!tape.take(']')) {
                     tape.faultHere(FAULT_SIGN);
                 }
             } else {
-                readSum();
-                int step = takeComparison();
-                readSum();
+                readSum(tape);
+                int step = takeComparison(tape);
+                readSum(tape);
                 rule.add(step);
             }
         }
 
-        private int takeComparison() {
-            int kind = tape.next();
-            int step = comparison(kind);
+        private int takeComparison(Tape tape) {
+            int step = comparison(tape.next());
             parts++;
             if (step == STEP_NONE) {
                 tape.faultHere(FAULT_SIGN);
             } else if (parts > PARTS_MOST) {
                 tape.faultHere(FAULT_MANY);
             }
-            tape.take(kind);
+            tape.pass();
             return step;
         }
 
@@ -906,22 +920,21 @@ public final class ConkerYard {
         }
 
         /** A + or - waits till the TERM behind it is at its end. */
-        private void readSum() {
+        private void readSum(Tape tape) {
             int waiting = STEP_NONE;
-            readValue();
+            readValue(tape);
             for (int i = 0; i < PARTS_MOST; i++) {
-                int kind = tape.next();
-                int step = reckoning(kind);
+                int step = reckoning(tape.next());
                 if (step == STEP_NONE) {
                     break;
                 }
-                tape.take(kind);
+                tape.pass();
                 if (step == STEP_PLUS || step == STEP_MINUS) {
                     rule.add(waiting);
                     waiting = step;
-                    readValue();
+                    readValue(tape);
                 } else {
-                    readValue();
+                    readValue(tape);
                     rule.add(step);
                 }
             }
@@ -940,7 +953,7 @@ public final class ConkerYard {
         }
 
         /** What is wrong with the VALUE itself comes ahead of its being one too many. */
-        private void readValue() {
+        private void readValue(Tape tape) {
             int kind = tape.next();
             boolean isWord = kind >= TOKEN_WORD && kind < TOKEN_WORD + VALUE_WORDS;
             parts++;
@@ -952,10 +965,11 @@ public final class ConkerYard {
                 tape.faultHere(FAULT_MANY);
             } else if (isWord) {
                 rule.add(kind - TOKEN_WORD << STEP_BITS | STEP_WORD);
+                rule.knowsRound |= kind == TOKEN_ROUND;
             } else {
                 rule.add(tape.value() << STEP_BITS | STEP_NUMBER);
             }
-            tape.take(kind);
+            tape.pass();
         }
     }
 
@@ -1005,7 +1019,7 @@ public final class ConkerYard {
         }
 
         private void tellYard(Lot lot) {
-            words[10] = lot.wholeMany();
+            words[10] = Integer.bitCount(lot.whole);
             words[11] = lot.strikes;
             words[12] = lot.round;
         }
@@ -1160,7 +1174,7 @@ public final class ConkerYard {
 
         /** Which strike of a BOUT smashes, 0: none does. Odd ones are the first one's. */
         private int smashingStrike(int one, int other) {
-            if (!canMeet(one, other)) {
+            if (one < 0 || one >= CONKERS_MOST || other < 0 || other >= CONKERS_MOST) {
                 return 0;
             }
             int onesCracks = cracks[one];
@@ -1220,12 +1234,13 @@ public final class ConkerYard {
         }
 
         private void smash(int loser, int winner) {
-            if (canMeet(loser, winner)) {
-                whole &= ~(1 << loser);
-                cracks[loser] = hard[loser];
-                score[winner] = Math.min(SCORE_MOST, score[winner] + score[loser] + 1);
-                score[loser] = 0;
+            if (loser < 0 || loser >= CONKERS_MOST || winner < 0 || winner >= CONKERS_MOST) {
+                return;
             }
+            whole &= ~(1 << loser);
+            cracks[loser] = hard[loser];
+            score[winner] = Math.min(SCORE_MOST, score[winner] + score[loser] + 1);
+            score[loser] = 0;
         }
 
         void healAllBut(int bits) {
@@ -1366,12 +1381,14 @@ public final class ConkerYard {
 
         private final Judge judge = new Judge();
         private final Lot trial = new Lot();
+        private boolean still = false;
         private final int[] onesGain = new int[TWOS];
         private final int[] othersGain = new int[TWOS];
         int drawn = 0;
 
         Lot from(Lot lot) {
             trial.become(lot);
+            still = false;
             return trial;
         }
 
@@ -1390,15 +1407,26 @@ public final class ConkerYard {
             return striker;
         }
 
+        /** A ROUND of the trial. Once nothing but ROUND can change, it is not weighed again: that is dear. */
+        private void goRound(Rule rule) {
+            if (still) {
+                trial.round++;
+                return;
+            }
+            boolean healed = trial.wholeSum(trial.cracks) == 0;
+            boolean quiet = playRound(trial, rule) == NO_ONE;
+            still = healed && quiet && (rule == null || !rule.knowsRound);
+        }
+
         void goOn(Rule rule, int rounds) {
             for (int i = 0; i < rounds && i < ROUNDS_AHEAD; i++) {
-                playRound(trial, rule);
+                goRound(rule);
             }
         }
 
         int smashedIn(int conker, Rule rule) {
             for (int round = 1; round <= ROUNDS_WATCHED; round++) {
-                playRound(trial, rule);
+                goRound(rule);
                 if (!trial.isWhole(conker)) {
                     return round;
                 }
@@ -1408,7 +1436,7 @@ public final class ConkerYard {
 
         int aloneBehind(Rule rule) {
             for (int round = 1; round <= ROUNDS_WATCHED; round++) {
-                playRound(trial, rule);
+                goRound(rule);
                 if (trial.wholeMany() <= 1) {
                     return round;
                 }
@@ -1418,7 +1446,7 @@ public final class ConkerYard {
 
         /** How many are WHOLE behind ROUNDS if that one (NONE: none) is pickled first. */
         int wholeWith(Lot now, int pickled, Rule rule, int rounds) {
-            trial.become(now);
+            from(now);
             trial.harden(pickled, 5);
             goOn(rule, rounds);
             return trial.wholeMany();
@@ -1432,7 +1460,7 @@ public final class ConkerYard {
                     return false;
                 }
                 if (round < latest) {
-                    playRound(trial, rule);
+                    goRound(rule);
                 }
             }
             return true;
@@ -1447,7 +1475,7 @@ public final class ConkerYard {
                 return;
             }
             for (int two = 0; two < TWOS; two++) {
-                trial.become(now);
+                from(now);
                 trial.swing[one] = stringOf(two / STRINGS);
                 trial.swing[other] = stringOf(two % STRINGS);
                 goOn(rule, rounds);
@@ -1504,13 +1532,14 @@ public final class ConkerYard {
                 if (draw() % 100 < percent && trial.size > 0) {
                     freeze(draw() % trial.size);
                 }
-                playRound(trial, rule);
+                goRound(rule);
             }
         }
 
         private void freeze(int conker) {
             if (trial.isWhole(conker)) {
                 trial.cracks[conker] = Math.min(trial.hard[conker] - 1, trial.cracks[conker] + 3);
+                still = false;
             }
         }
     }
