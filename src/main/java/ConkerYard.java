@@ -1042,14 +1042,18 @@ public final class ConkerYard {
 
         /** The SUM of the first CLAUSE that holds, 0 without. */
         private long weighed(Rule rule) {
+            int[] steps = rule.steps;
+            int length = Math.min(rule.length, steps.length);
             int top = 0;
-            for (int i = 0; i < rule.length && i < Rule.STEPS_MOST; i++) {
-                int step = rule.steps[i] & STEP_MASK;
+            for (int i = 0; i < length; i++) {
+                int step = steps[i] & STEP_MASK;
                 if (step <= STEP_WORD) {
                     if (top >= STACK_MOST) {
                         return 0;
                     }
-                    stack[top] = valued(step, rule.steps[i] >> STEP_BITS);
+                    int operand = steps[i] >> STEP_BITS;
+                    boolean isWord = step == STEP_WORD && operand >= 0 && operand < VALUE_WORDS;
+                    stack[top] = isWord ? words[operand] : operand;
                     top++;
                 } else if (step == STEP_NOT || step == STEP_HIT) {
                     if (top < 1) {
@@ -1074,13 +1078,6 @@ public final class ConkerYard {
                 }
             }
             return 0;
-        }
-
-        private long valued(int step, int operand) {
-            if (step == STEP_NUMBER) {
-                return operand;
-            }
-            return operand >= 0 && operand < VALUE_WORDS ? words[operand] : 0;
         }
 
         private static long joined(int step, long left, long right) {

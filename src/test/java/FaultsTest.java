@@ -141,6 +141,8 @@ public final class FaultsTest {
     private static void ruleFaults() {
         ruleFault("hit", 3, 0);
         ruleFault("hits 1", 0, 0);
+        ruleFault("hitz 1", 0, 0);
+        ruleFault("hita 1", 0, 0);
         ruleFault("hit 1 if", 8, 0);
         ruleFault("hit x", 4, 0);
         ruleFault("hit 1;", 6, 0);

@@ -652,6 +652,8 @@ public final class PromisesTest {
         due("count(10)", x.count(10), 12345);
         due("the greatest seed", x.seed(2147483647), 12345);
         due("count(10)", x.count(10), 2147483647);
+        due("seed(0)", x.seed(0), 2147483647);
+        due("count(10)", x.count(10), 0);
         ConkerYard soft = Due.with("yard 1;conker 2 1 0;conker 9 1 0", "hit 0");
         soft.force(0);
         due("as many as hard less 1 at most, then it heals", soft.frost(1, 1, 100, 1), 0);
@@ -716,6 +718,18 @@ public final class PromisesTest {
         due("back(2) again", x.back(2), 1);
         due("conkers", x.count(1), 4);
         due("back(0)", x.back(0), NONE);
+        // each part of a note comes back: behind which round, which conker, whole or not
+        ConkerYard noted = Due.with(TWO);
+        noted.note(0, 0, 1);
+        noted.note(2, 1, 1);
+        noted.image(0);
+        noted.note(NONE, 0, 0);
+        noted.note(1, 1, 0);
+        noted.note(1, 0, 1);
+        due("other notes", noted.hards(1, 0), 1);
+        noted.back(0);
+        due("the notes that were: 2 to 30", noted.hards(1, 0), 29);
+        due("the least", noted.hards(1, 1), 2);
         ConkerYard none = new ConkerYard();
         none.image(1);
         Due.yard(none, TWO);
