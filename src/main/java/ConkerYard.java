@@ -128,10 +128,11 @@ public final class ConkerYard {
 
     public int yard() {
         YardText.readInto(tape, fresh);
+        // with a FAULT the YARD stays, but what was read is off the TAPE
+        tape.length = 0;
         if (tape.fault != 0) {
             return NO_ONE - tape.fault;
         }
-        tape.length = 0;
         world.there = true;
         world.begin.become(fresh);
         world.now.become(fresh);
@@ -145,11 +146,11 @@ public final class ConkerYard {
             return NONE;
         }
         ruleText.read(tape);
+        tape.length = 0;
         if (tape.fault != 0) {
             return NO_ONE - tape.fault;
         }
         rules[rulesMany].become(ruleText.rule);
-        tape.length = 0;
         rulesMany++;
         return rulesMany - 1;
     }

@@ -62,15 +62,16 @@ public final class FaultsTest {
         Due.due("a ninth", Due.yard(x, eight + " ; conker 1 1 0"), Due.fault(eight.length() + 3, 4));
         Due.due("a ninth of a wrong word", Due.yard(x, eight + ";conkers 1 1 0"), Due.fault(eight.length() + 1, 0));
         Due.due("all stays", x.count(1), 8);
-        Due.due("the tape, too", x.count(11), eight.length() + 14);
+        Due.due("but not the tape", x.count(11), 0);
         Due.due("cracked behind eight", Due.yard(x, eight + ";cracked 7 7;cracked 7 0"), 8);
     }
 
     private static void yardFault(String text, int place, int kind) {
         ConkerYard x = new ConkerYard();
         Due.due("yard of '" + text + "'", Due.yard(x, text), Due.fault(place, kind));
-        Due.due("tape stays", x.count(11), Due.bytes(text).length);
+        Due.due("the tape is empty behind yard '" + text + "'", x.count(11), 0);
         Due.due("no yard", x.round(), -1);
+        Due.due("a yard fed behind '" + text + "'", fedYard(x), 0);
     }
 
     private static void yardFaults() {
@@ -128,14 +129,23 @@ public final class FaultsTest {
         Due.due("a seventh", Due.rule(x, "hit 1"), -1);
         Due.due("nothing happens", x.count(11), 5);
         Due.due("a seventh with a fault", Due.rule(x, "hit"), -1);
+        Due.due("nothing happens", x.count(11), 3);
         Due.due("count(2)", x.count(2), 6);
     }
 
     private static void ruleFault(String text, int place, int kind) {
         ConkerYard x = new ConkerYard();
         Due.due("rule of '" + text + "'", Due.rule(x, text), Due.fault(place, kind));
+        Due.due("the tape is empty behind rule '" + text + "'", x.count(11), 0);
         Due.due("no rule", x.count(2), 0);
         Due.due("none to force", x.force(0), -2);
+        Due.due("a yard fed behind '" + text + "'", fedYard(x), 0);
+    }
+
+    /** "yard 3" fed behind what the tape has, which should be nothing. */
+    private static int fedYard(ConkerYard x) {
+        int many = x.feed(0x79617264, 0x20332020, 0x20202020, 0x20202020, 0x20202020);
+        return many == 20 ? x.yard() : many;
     }
 
     private static void ruleFaults() {

@@ -478,10 +478,11 @@ final class Oracle {
             there = true;
             notes.clear();
             acts.clear();
-            tape = new byte[0];
             return s.conkers.size();
         } catch (Fault f) {
             return -2 - f.number;
+        } finally {
+            tape = new byte[0];
         }
     }
 
@@ -491,10 +492,11 @@ final class Oracle {
         }
         try {
             rules.add(new Text(tape).rule());
-            tape = new byte[0];
             return rules.size() - 1;
         } catch (Fault f) {
             return -2 - f.number;
+        } finally {
+            tape = new byte[0];
         }
     }
 

@@ -754,10 +754,17 @@ public final class PromisesTest {
         due("rules", x.count(2), 1);
         x.round();
         x.note(1, 0, 1);
-        Due.yard(x, "yard 0");
+        Due.yard(x, "yard 1;conker 9 9 9;conker 9 9 9;conker 9 9 9;cracked 0 9");
         due("with a fault all stays: round", x.count(4), 1);
         due("notes", x.count(8), 1);
         due("acts", x.count(9), 1);
         due("conkers", x.count(1), 2);
+        due("in force", x.count(3), 0);
+        due("x", x.count(10), 3);
+        due("hard", x.conker(1, 0), 3);
+        due("what the text told", x.swings(1), 6);
+        due("undo", x.undo(), 0);
+        due("whole", x.count(5), 3);
+        due("but the tape is empty", x.count(11), 0);
     }
 }
