@@ -6,6 +6,7 @@ public final class FaultsTest {
         tape();
         yards();
         yardFaults();
+        longTexts();
         rules();
         ruleFaults();
         depth();
@@ -116,6 +117,19 @@ public final class FaultsTest {
         yardFault("\u00e9", 0, 0);
     }
 
+    /** Texts of 400 bytes, each of which counts. */
+    private static void longTexts() {
+        Due.due("blanks to the end", Due.yard(new ConkerYard(), "yard 1" + times(" ", 394)), 0);
+        yardFault(times(" ", 400), 400, 0);
+        yardFault(times(" ", 399) + "x", 399, 0);
+        yardFault("yard 1" + times(" ", 393) + ";", 400, 0);
+        yardFault("yard" + times(" ", 395) + "0", 399, 1);
+        yardFault(times(";", 400), 0, 0);
+        ruleFault(times(" ", 400), 400, 0);
+        ruleFault("hit 1" + times(" ", 394) + "[", 399, 0);
+        Due.due("a number at the end", Due.rule(new ConkerYard(), "hit" + times(" ", 396) + "7"), 0);
+    }
+
     private static void rules() {
         ConkerYard x = new ConkerYard();
         String[] fine = {
@@ -165,6 +179,11 @@ public final class FaultsTest {
         ruleFault("hit hard swing", 9, 0);
         ruleFault("hit hit", 4, 0);
         ruleFault("hit if", 4, 0);
+        ruleFault("hit yard", 4, 0);
+        ruleFault("hit conker", 4, 0);
+        ruleFault("hit cracked", 4, 0);
+        ruleFault("hit and", 4, 0);
+        ruleFault("hit 1 or 2", 6, 0);
         ruleFault("hit 1 iff 1=1", 6, 0);
         ruleFault("hit 1 if 1", 10, 0);
         ruleFault("hit 1 if 1 ; hit 2", 11, 0);
