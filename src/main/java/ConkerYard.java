@@ -553,7 +553,8 @@ public final class ConkerYard {
             if (course.fits(ruleOf(rule), world.notes)) {
                 many++;
                 course.from(world.begin);
-                course.goOn(ruleOf(rule), n);
+                // the first ROUND is the 0-th: behind the n-th there have been n + 1
+                course.goOn(ruleOf(rule), n + 1);
                 for (int conker = 0; conker < CONKERS_MOST; conker++) {
                     tally[conker] += trial.isWhole(conker) ? 1 : 0;
                 }
@@ -1422,8 +1423,10 @@ public final class ConkerYard {
             }
         }
 
+        /** The ROUND, by its own number, in which that one is SMASHED, or NO_ONE. */
         int smashedIn(int conker, Rule rule) {
-            for (int round = 1; round <= ROUNDS_WATCHED; round++) {
+            for (int i = 0; i < ROUNDS_WATCHED; i++) {
+                int round = trial.round;
                 goRound(rule);
                 if (!trial.isWhole(conker)) {
                     return round;
@@ -1432,8 +1435,10 @@ public final class ConkerYard {
             return NO_ONE;
         }
 
+        /** The ROUND, by its own number, behind which at most one is WHOLE, or NO_ONE. */
         int aloneBehind(Rule rule) {
-            for (int round = 1; round <= ROUNDS_WATCHED; round++) {
+            for (int i = 0; i < ROUNDS_WATCHED; i++) {
+                int round = trial.round;
                 goRound(rule);
                 if (trial.wholeMany() <= 1) {
                     return round;
@@ -1450,15 +1455,13 @@ public final class ConkerYard {
             return trial.wholeMany();
         }
 
-        /** Whether all NOTES are so as the trial, which is at its begin, goes on. */
+        /** Whether all NOTES, each of what is behind its ROUND, are so as the trial, at its begin, goes on. */
         boolean fits(Rule rule, Notes notes) {
             int latest = Math.min(NOTED_ROUNDS, notes.latest());
             for (int round = 0; round <= latest; round++) {
+                goRound(rule);
                 if (!notes.areSo(round, trial)) {
                     return false;
-                }
-                if (round < latest) {
-                    goRound(rule);
                 }
             }
             return true;

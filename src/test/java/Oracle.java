@@ -799,7 +799,7 @@ final class Oracle {
             return -1;
         }
         State s = now.copy();
-        for (int i = 1; i <= 200; i++) {
+        for (int i = now.round; i < now.round + 200; i++) {
             round(s, inForce());
             if (!s.conkers.get(c).whole) {
                 return i;
@@ -813,7 +813,7 @@ final class Oracle {
             return -1;
         }
         State s = now.copy();
-        for (int i = 1; i <= 200; i++) {
+        for (int i = now.round; i < now.round + 200; i++) {
             round(s, inForce());
             if (s.whole().size() < 2) {
                 return i;
@@ -840,9 +840,18 @@ final class Oracle {
         return what == 0 ? which : most;
     }
 
+    /** Behind the n-th ROUND of all, of which the first is the 0-th: until ROUND is past n. */
+    State behind(State begin, List<Clause> rule, int n) {
+        State s = begin.copy();
+        while (s.round <= n) {
+            round(s, rule);
+        }
+        return s;
+    }
+
     boolean allSo(State begin, List<Clause> rule) {
         for (Note note : notes) {
-            if (after(begin, rule, note.n()).isWhole(note.conker()) != note.whole()) {
+            if (behind(begin, rule, note.n()).isWhole(note.conker()) != note.whole()) {
                 return false;
             }
         }
@@ -979,7 +988,7 @@ final class Oracle {
             int whole = 0;
             int not = 0;
             for (int r : fine) {
-                if (after(told, r < 0 ? null : rules.get(r), n).isWhole(c)) {
+                if (behind(told, r < 0 ? null : rules.get(r), n).isWhole(c)) {
                     whole++;
                 } else {
                     not++;

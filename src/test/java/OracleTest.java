@@ -229,8 +229,8 @@ public final class OracleTest {
             default -> {
                 n = number(chance(20) ? -1 : 0, chance(80) ? 8 : 60);
                 // half of the notes are as it goes, so that rules and numbers are left that fit
-                int as = chance(60) && n <= 100 && n >= 0 && a >= 0 && a < 8
-                    ? yard.ahead(a, n, 0) >> a & 1 : number(0, 1);
+                int as = chance(60) && n < 100 && n >= 0 && a >= 0 && a < 8
+                    ? yard.ahead(a, n + 1, 0) >> a & 1 : number(0, 1);
                 if (chance(60)) {
                     due("note(" + n + ", " + a + ", " + as + ")", yard.note(n, a, as), oracle.note(n, a, as));
                 }

@@ -93,13 +93,13 @@ public final class PromisesTest {
 
     private static void roundsWithoutRule() {
         ConkerYard x = Due.with(FOUR);
-        due("smashed(1)", x.smashed(1), 1);
-        due("smashed(2)", x.smashed(2), 2);
-        due("smashed(3)", x.smashed(3), 3);
+        due("smashed(1), in round 0", x.smashed(1), 0);
+        due("smashed(2)", x.smashed(2), 1);
+        due("smashed(3)", x.smashed(3), 2);
         due("smashed(0)", x.smashed(0), -2);
         due("smashed(4)", x.smashed(4), NONE);
-        due("alone()", x.alone(), 3);
-        due("round 1", x.round(), 0);
+        due("alone()", x.alone(), 2);
+        due("round 0", x.round(), 0);
         due("whole", x.count(5), 13);
         due("score", x.conker(0, 3), 3);
         due("cracks of the smashed one", x.conker(1, 2), 6);
@@ -107,19 +107,23 @@ public final class PromisesTest {
         due("smashed of it", x.smashed(1), NONE);
         due("smashed(2) from here", x.smashed(2), 1);
         due("alone() from here", x.alone(), 2);
-        due("round 2", x.round(), 0);
+        due("round 1", x.round(), 0);
         due("cracks of the striker", x.conker(0, 2), 3);
         due("score", x.conker(0, 3), 5);
         due("score of the smashed one", x.conker(2, 3), 0);
-        due("round 3", x.round(), 0);
+        due("round 2", x.round(), 0);
         due("cracks of the striker", x.conker(0, 2), 7);
         due("score", x.conker(0, 3), 11);
         due("whole", x.count(5), 1);
-        due("alone() when it is", x.alone(), 1);
-        due("round 4: nobody", x.round(), -2);
+        due("alone() when it is: this round", x.alone(), 3);
+        due("round 3: nobody", x.round(), -2);
         due("it heals", x.conker(0, 2), 6);
         due("count(4)", x.count(4), 4);
+        due("alone() still: this round", x.alone(), 4);
+        x.undo();
+        due("alone() with a round undone", x.alone(), 3);
         ConkerYard empty = Due.with("yard 5");
+        due("alone() of no conkers", empty.alone(), 0);
         due("a round of no conkers", empty.round(), -2);
         due("count(4)", empty.count(4), 1);
         due("alone() of no conkers", empty.alone(), 1);
@@ -128,17 +132,17 @@ public final class PromisesTest {
     private static void roundsByRule() {
         ConkerYard x = Due.with(FOUR, "hit worth - score", "hit 0");
         x.force(0);
-        due("alone()", x.alone(), 3);
-        due("smashed(1)", x.smashed(1), 1);
-        due("smashed(3)", x.smashed(3), 2);
-        due("smashed(2)", x.smashed(2), 3);
-        due("round 1", x.round(), 1);
+        due("alone()", x.alone(), 2);
+        due("smashed(1)", x.smashed(1), 0);
+        due("smashed(3)", x.smashed(3), 1);
+        due("smashed(2)", x.smashed(2), 2);
+        due("round 0", x.round(), 1);
         due("who was struck had strikes, too", x.conker(3, 2), 10);
         due("its score", x.conker(3, 3), 6);
         due("whole", x.count(5), 13);
-        due("round 2", x.round(), 2);
+        due("round 1", x.round(), 2);
         due("score", x.conker(2, 3), 8);
-        due("round 3", x.round(), 0);
+        due("round 2", x.round(), 0);
         due("score", x.conker(0, 3), 11);
         due("cracks", x.conker(0, 2), 3);
         x.force(1);
@@ -431,15 +435,18 @@ public final class PromisesTest {
         ConkerYard late = Due.with("yard 1;conker 1 1 0;conker 9 9 0", "hit 1 if round = 199", "hit 1 if round = 200",
             "hit 1 if round = 100");
         late.force(0);
-        due("in the 200th", late.smashed(0), 200);
-        due("behind the 200th", late.alone(), 200);
+        due("the 200th is round 199", late.smashed(0), 199);
+        due("behind round 199", late.alone(), 199);
         late.force(1);
-        due("in the 201st", late.smashed(0), -2);
+        due("the 201st", late.smashed(0), -2);
         due("behind the 201st", late.alone(), -2);
         late.round();
-        due("one further, in the 200th", late.smashed(0), 200);
+        due("one further, the 200th is round 200", late.smashed(0), 200);
+        due("behind round 200", late.alone(), 200);
         late.force(2);
-        due("round is told from the begin", late.smashed(0), 100);
+        due("rounds are counted from the begin", late.smashed(0), 100);
+        late.bout(1, 0);
+        due("this round, since one is smashed by hand", late.alone(), 1);
     }
 
     private static void best() {
@@ -463,7 +470,7 @@ public final class PromisesTest {
         due("no notes: all", x.hards(0, 0), 30);
         due("no notes: the least", x.hards(0, 1), 1);
         due("no notes: swings", x.swings(0), (1 << 21) - 2);
-        due("note", x.note(1, 0, 1), 1);
+        due("note: behind round 0", x.note(0, 0, 1), 1);
         due("hards(0, 0)", x.hards(0, 0), 27);
         due("hards(0, 1)", x.hards(0, 1), 4);
         due("hards(1, 0)", x.hards(1, 0), 1);
@@ -477,10 +484,19 @@ public final class PromisesTest {
         due("hards(-1, 0)", x.hards(-1, 0), NONE);
         due("hards(0, 2)", x.hards(0, 2), NONE);
         due("swings(2)", x.swings(2), NONE);
-        due("note", x.note(1, 0, 0), 2);
+        due("note", x.note(0, 0, 0), 2);
         due("none", x.hards(0, 0), 0);
         due("none", x.hards(0, 1), -2);
         due("none", x.swings(0), 0);
+        x.note(NONE, 0, 0);
+        // 3 cracks behind round 0, 6 behind round 1
+        due("note: behind round 1", x.note(1, 0, 1), 1);
+        due("hards(0, 0)", x.hards(0, 0), 24);
+        due("hards(0, 1)", x.hards(0, 1), 7);
+        due("hards(1, 0)", x.hards(1, 0), 1);
+        due("swings(0)", x.swings(0), (1 << 21) - 8);
+        due("swings(1)", x.swings(1), 2);
+        notesAtTheEdge();
         ConkerYard cracked = Due.with("yard 1;conker 9 1 0;cracked 0 6");
         due("above the cracks told", cracked.hards(0, 0), 24);
         due("the least above them", cracked.hards(0, 1), 7);
@@ -492,6 +508,24 @@ public final class PromisesTest {
         ruled.force(0);
         due("by the rule in force", ruled.hards(1, 0), 30);
         due("of a smashed one, too", Due.with("yard 1;conker 1 1 0;conker 1 1 0").hards(1, 0), 30);
+    }
+
+    /** 1 strikes at 0 in round 60, or in round 61, alone: the last round that a note can be of, and the one behind it. */
+    private static void notesAtTheEdge() {
+        String text = "yard 1;conker 9 1 0;conker 9 1 0";
+        ConkerYard x = Due.with(text, "hit 1 if round = 60 and striker = 1", "hit 1 if round = 61 and striker = 1");
+        x.force(0);
+        x.note(60, 0, 0);
+        due("smashed in round 60: by hard 1 alone", x.hards(0, 0), 1);
+        due("smashed in round 60", x.swings(1), (1 << 21) - (1 << 9));
+        due("as the text told it 0 stays whole by all", x.ruled(0), 0);
+        due("as the text told it 0 stays whole by all", x.ruled(1), -2);
+        x.note(59, 0, 1);
+        due("whole behind round 59", x.hards(0, 0), 1);
+        due("whole behind round 59", x.swings(1), (1 << 21) - (1 << 9));
+        x.force(1);
+        due("round 61 is not looked at", x.hards(0, 0), 0);
+        due("round 61 is not looked at", x.swings(1), 0);
     }
 
     private static void rests() {
@@ -583,7 +617,7 @@ public final class PromisesTest {
         due("look(1, 0)", x.look(1, 0), 0);
         due("look(1, 1)", x.look(1, 1), 3);
         due("look(0, 0)", x.look(0, 0), 0);
-        due("look(0, 1)", x.look(0, 1), 4);
+        due("look(0, 1)", x.look(0, 1), 3);
         due("look(60, 1)", x.look(60, 1), 3);
         due("look(61, 1)", x.look(61, 1), NONE);
         due("look(-1, 1)", x.look(-1, 1), NONE);
@@ -619,6 +653,28 @@ public final class PromisesTest {
         ConkerYard z = Due.with("yard 1;conker 9 9 0;conker 9 1 0", "hit 0");
         due("the better one", z.look(1, 0), 1);
         due("one of each", z.look(1, 1), 1);
+        due("behind round 0 already", z.look(0, 0), 1);
+        due("behind round 0 already", z.look(0, 1), 1);
+        z.note(0, 1, 0);
+        due("smashed behind round 0: by none", z.ruled(0), 1);
+        due("smashed behind round 0: by none", z.ruled(1), NONE);
+        z.note(NONE, 0, 0);
+        z.note(0, 1, 1);
+        due("whole behind round 0: by the rule", z.ruled(0), 1);
+        due("whole behind round 0: by the rule", z.ruled(1), 0);
+        // three ways, parted by the rounds in which 1 is smashed: 0, 60 and 61
+        ConkerYard late = Due.with("yard 1;conker 9 9 0;conker 9 1 0", "hit 1 if round = 60", "hit 1 if round = 61");
+        due("smashed by one of three", late.look(59, 1), 2);
+        due("smashed by two of three", late.look(60, 1), 2);
+        late.note(59, 1, 1);
+        due("by none it is smashed before", late.ruled(0), 2);
+        due("parted by 1 behind round 60", late.look(60, 0), 1);
+        due("parted by 1 behind round 60", late.look(60, 1), 1);
+        due("alike behind round 59", late.look(59, 0), 0);
+        due("alike behind round 59", late.look(59, 1), 2);
+        late.note(60, 1, 0);
+        due("smashed in round 60", late.ruled(0), 1);
+        due("smashed in round 60", late.ruled(1), 0);
     }
 
     private static void frost() {
@@ -688,7 +744,7 @@ public final class PromisesTest {
         x.round();
         x.force(0);
         x.seed(5);
-        x.note(1, 1, 0);
+        x.note(0, 1, 0);
         due("image(2)", x.image(2), 1);
         due("acts stay with an image", x.count(9), 1);
         x.round();
@@ -721,15 +777,16 @@ public final class PromisesTest {
         // each part of a note comes back: behind which round, which conker, whole or not
         ConkerYard noted = Due.with(TWO);
         noted.note(0, 0, 1);
-        noted.note(2, 1, 1);
+        noted.note(1, 0, 0);
         noted.image(0);
         noted.note(NONE, 0, 0);
-        noted.note(1, 1, 0);
-        noted.note(1, 0, 1);
-        due("other notes", noted.hards(1, 0), 1);
+        noted.note(2, 1, 0);
+        noted.note(0, 0, 1);
+        due("other notes: 7 to 30", noted.hards(0, 0), 24);
+        due("the least", noted.hards(0, 1), 7);
         noted.back(0);
-        due("the notes that were: 2 to 30", noted.hards(1, 0), 29);
-        due("the least", noted.hards(1, 1), 2);
+        due("the notes that were: 4 to 6", noted.hards(0, 0), 3);
+        due("the least", noted.hards(0, 1), 4);
         ConkerYard none = new ConkerYard();
         none.image(1);
         Due.yard(none, TWO);
@@ -753,7 +810,7 @@ public final class PromisesTest {
         due("x", x.count(10), 3);
         due("rules", x.count(2), 1);
         x.round();
-        x.note(1, 0, 1);
+        x.note(0, 0, 1);
         Due.yard(x, "yard 1;conker 9 9 9;conker 9 9 9;conker 9 9 9;cracked 0 9");
         due("with a fault all stays: round", x.count(4), 1);
         due("notes", x.count(8), 1);
