@@ -116,9 +116,7 @@ public final class ActEdgesTest {
     }
 
     private static int striker(String text, String rule) {
-        ConkerYard x = Due.with(text, rule);
-        x.force(0);
-        return x.round();
+        return Due.under(text, rule).round();
     }
 
     private static void greatest() {
@@ -138,8 +136,7 @@ public final class ActEdgesTest {
 
     /** Whether just these two are in the bout of a round among four alike. */
     private static void two(String rule, int striker, int struck) {
-        ConkerYard x = Due.with("yard 1" + ";conker 9 1 0".repeat(4), rule);
-        x.force(0);
+        ConkerYard x = Due.under("yard 1" + ";conker 9 1 0".repeat(4), rule);
         Edge.due("striker by '" + rule + "'", x.round(), striker);
         for (int c = 0; c < 4; c++) {
             Edge.due("cracks of " + c + " by '" + rule + "'", x.conker(c, 2), c == striker || c == struck ? 1 : 0);
@@ -189,16 +186,14 @@ public final class ActEdgesTest {
             Edge.due("it had none", x.conker(2, 2), healed[round]);
             Edge.due("it is smashed", x.conker(3, 2), 4);
         }
-        ConkerYard nobody = Due.with("yard 1;conker 9 1 0;conker 9 1 0;cracked 0 2;cracked 1 1", "hit 0");
-        nobody.force(0);
+        ConkerYard nobody = Due.under("yard 1;conker 9 1 0;conker 9 1 0;cracked 0 2;cracked 1 1", "hit 0");
         nobody.round();
         Edge.due("all heal when nobody strikes", nobody.conker(0, 2), 1);
         Edge.due("all heal when nobody strikes", nobody.conker(1, 2), 0);
         nobody.round();
         nobody.round();
         Edge.due("0 at least", nobody.count(7), 0);
-        ConkerYard other = Due.with("yard 1" + ";conker 9 1 0".repeat(8) + ";cracked 0 5;cracked 7 5", "hit 1 if striker=6");
-        other.force(0);
+        ConkerYard other = Due.under("yard 1" + ";conker 9 1 0".repeat(8) + ";cracked 0 5;cracked 7 5", "hit 1 if striker=6");
         Edge.due("6 at 0", other.round(), 6);
         Edge.due("0 had the bout", other.conker(0, 2), 6);
         Edge.due("7 had none", other.conker(7, 2), 4);
@@ -227,8 +222,7 @@ public final class ActEdgesTest {
         Edge.due("alone()", x.alone(), 500);
         Edge.due("undo()", x.undo(), 19);
         Edge.due("count(4)", x.count(4), 499);
-        ConkerYard asked = Due.with(QUIET, "hit 1 if round = 499 and striker = 1");
-        asked.force(0);
+        ConkerYard asked = Due.under(QUIET, "hit 1 if round = 499 and striker = 1");
         for (int round = 0; round < 300; round++) {
             asked.round();
         }

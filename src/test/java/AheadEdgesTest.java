@@ -26,15 +26,9 @@ public final class AheadEdgesTest {
         Edge.close("AheadEdgesTest");
     }
 
-    private static ConkerYard ruled(String text, String rule) {
-        ConkerYard x = Due.with(text, rule);
-        x.force(0);
-        return x;
-    }
-
     private static void ahead() {
         Edge.says("AHEAD n ROUNDS (0 to 100): CONKERS that are WHOLE, as bits; SCORE; CRACKS of one.");
-        ConkerYard x = ruled(STRONG, "hit 1 if round = 99");
+        ConkerYard x = Due.under(STRONG, "hit 1 if round = 99");
         int[][] due = {{0, 3, 4, 0}, {1, 3, 4, 0}, {99, 3, 4, 0}, {100, 1, 11, 9}};
         for (int[] row : due) {
             Edge.due("whole behind " + row[0], x.ahead(0, row[0], 0), row[1]);
@@ -48,7 +42,7 @@ public final class AheadEdgesTest {
         for (int i = 0; i < rounds.length; i++) {
             Edge.due("cracks behind " + rounds[i], healing.ahead(0, rounds[i], 2), cracks[i]);
         }
-        ConkerYard nobody = ruled("yard 1;conker 9 1 0;conker 9 1 0;cracked 0 3", "hit 1 if round = 5");
+        ConkerYard nobody = Due.under("yard 1;conker 9 1 0;conker 9 1 0;cracked 0 3", "hit 1 if round = 5");
         Edge.due("quiet rounds are counted, too", nobody.ahead(1, 5, 2), 0);
         Edge.due("quiet rounds are counted, too", nobody.ahead(1, 6, 2), 1);
         Edge.due("all of eight", Due.with("yard 1" + ";conker 9 1 0".repeat(8)).ahead(0, 0, 0), 255);
@@ -79,16 +73,16 @@ public final class AheadEdgesTest {
     private static void smashed() {
         Edge.says("the first ROUND, this one the first, of 200, in which it is.");
         Edge.due("this one", Due.with(STRONG).smashed(1), 0);
-        Edge.due("the 200th", ruled(STRONG, "hit 1 if round = 199").smashed(1), 199);
-        ConkerYard x = ruled(STRONG, "hit 1 if round = 200");
+        Edge.due("the 200th", Due.under(STRONG, "hit 1 if round = 199").smashed(1), 199);
+        ConkerYard x = Due.under(STRONG, "hit 1 if round = 200");
         Edge.due("the 201st", x.smashed(1), -2);
         x.round();
         Edge.due("the 200th from round 1 on", x.smashed(1), 200);
-        ConkerYard struck = ruled("yard 1;conker 9 1 0;conker 9 9 0", "hit 1 if round = 7");
+        ConkerYard struck = Due.under("yard 1;conker 9 1 0;conker 9 9 0", "hit 1 if round = 7");
         Edge.due("who strikes first is, too", struck.smashed(0), 7);
         Edge.due("who smashes is not", struck.smashed(1), -2);
         Edge.says("SMASHED; -2: in none of these; NONE without one that is WHOLE.");
-        Edge.due("none is", ruled(STRONG, "hit 0").smashed(1), -2);
+        Edge.due("none is", Due.under(STRONG, "hit 0").smashed(1), -2);
         for (int wrong : new int[] {1, 4, 7, 8, -1, WORST, Integer.MAX_VALUE}) {
             Edge.stays(Edge::busy, "smashed(" + wrong + ")", NONE, y -> y.smashed(wrong));
         }
@@ -103,8 +97,8 @@ public final class AheadEdgesTest {
         Edge.due("this one", Due.with(STRONG).alone(), 0);
         Edge.due("one is already", Due.with("yard 1;conker 9 1 0").alone(), 0);
         Edge.due("none is", Due.with("yard 1").alone(), 0);
-        Edge.due("the 200th", ruled(STRONG, "hit 1 if round = 199").alone(), 199);
-        ConkerYard x = ruled(STRONG, "hit 1 if round = 200");
+        Edge.due("the 200th", Due.under(STRONG, "hit 1 if round = 199").alone(), 199);
+        ConkerYard x = Due.under(STRONG, "hit 1 if round = 200");
         Edge.due("the 201st", x.alone(), -2);
         x.round();
         Edge.due("the 200th from round 1 on", x.alone(), 200);
@@ -112,24 +106,24 @@ public final class AheadEdgesTest {
         Edge.due("by hand, in round 1", x.alone(), 1);
         Edge.due("two of three are smashed", Due.with("yard 1;conker 9 9 0;conker 9 1 0;conker 9 1 0").alone(), 1);
         Edge.says("ALONE; -2: behind none of these; NONE without a YARD.");
-        Edge.due("two are", ruled(STRONG, "hit 0").alone(), -2);
-        Edge.due("two of three are", ruled("yard 1;conker 9 9 0;conker 9 1 0;conker 9 1 0", "hit 1 if struck=1").alone(), -2);
+        Edge.due("two are", Due.under(STRONG, "hit 0").alone(), -2);
+        Edge.due("two of three are", Due.under("yard 1;conker 9 9 0;conker 9 1 0;conker 9 1 0", "hit 1 if struck=1").alone(), -2);
         Edge.stays(ConkerYard::new, "without a yard", NONE, ConkerYard::alone);
         Edge.stays(Edge::busy, "alone()", 2, ConkerYard::alone);
     }
 
     private static void best() {
         Edge.says("BEST for n ROUNDS (1 to 40)");
-        ConkerYard x = ruled("yard 1;conker 9 20 0;conker 9 1 0", "hit 1 if round = 39");
+        ConkerYard x = Due.under("yard 1;conker 9 20 0;conker 9 1 0", "hit 1 if round = 39");
         Edge.due("best(39, 1)", x.best(39, 1), 2);
         Edge.due("best(40, 1)", x.best(40, 1), 1);
-        ConkerYard first = ruled("yard 1;conker 9 20 0;conker 9 1 0", "hit 1");
+        ConkerYard first = Due.under("yard 1;conker 9 20 0;conker 9 1 0", "hit 1");
         Edge.due("best(1, 1)", first.best(1, 1), 1);
         Edge.due("best(1, 0)", first.best(1, 0), NONE);
         Edge.says("what 0: which (NONE: none), 1: how many.");
         Edge.due("no conkers", Due.with("yard 1").best(40, 0), NONE);
         Edge.due("no conkers", Due.with("yard 1").best(40, 1), 0);
-        ConkerYard last = ruled("yard 1;conker 30 9 0" + ";conker 20 1 0".repeat(6) + ";conker 9 1 0", "hit 1 if struck = 7");
+        ConkerYard last = Due.under("yard 1;conker 30 9 0" + ";conker 20 1 0".repeat(6) + ";conker 9 1 0", "hit 1 if struck = 7");
         Edge.due("the eighth", last.best(1, 0), 7);
         Edge.due("all eight", last.best(1, 1), 8);
     }
@@ -137,17 +131,17 @@ public final class AheadEdgesTest {
     private static void bestHard() {
         Edge.says("had best be 5 more HARD now (60 at most)");
         String rule = "hit 1 if striker = 1";
-        ConkerYard nine = ruled("yard 1;conker 5 1 0;conker 30 9 0", rule);
+        ConkerYard nine = Due.under("yard 1;conker 5 1 0;conker 30 9 0", rule);
         Edge.due("9 cracks are less than 10", nine.best(1, 0), 0);
         Edge.due("9 cracks are less than 10", nine.best(1, 1), 2);
-        ConkerYard ten = ruled("yard 1;conker 5 1 0;conker 30 10 0", rule);
+        ConkerYard ten = Due.under("yard 1;conker 5 1 0;conker 30 10 0", rule);
         Edge.due("10 are not", ten.best(1, 0), NONE);
         Edge.due("10 are not", ten.best(1, 1), 1);
-        ConkerYard sixty = ruled("yard 3;conker 30 1 0;conker 30 20 0", rule);
+        ConkerYard sixty = Due.under("yard 3;conker 30 1 0;conker 30 20 0", rule);
         harden(sixty);
         Edge.due("60 cracks are not less than 60", sixty.best(1, 0), NONE);
         Edge.due("60 cracks are not less than 60", sixty.best(1, 1), 1);
-        ConkerYard less = ruled("yard 2;conker 30 1 0;conker 30 20 0;cracked 0 19", rule);
+        ConkerYard less = Due.under("yard 2;conker 30 1 0;conker 30 20 0;cracked 0 19", rule);
         harden(less);
         Edge.due("59 are", less.best(1, 0), 0);
         Edge.due("59 are", less.best(1, 1), 2);
@@ -164,7 +158,7 @@ public final class AheadEdgesTest {
 
     private static void bestOfSeveral() {
         Edge.says("of several none, then the least: which; how many.");
-        ConkerYard x = ruled("yard 1;conker 5 1 0;conker 5 1 0;conker 30 9 0",
+        ConkerYard x = Due.under("yard 1;conker 5 1 0;conker 5 1 0;conker 30 9 0",
             "hit 1 if striker=2 and struck=0 and round=0;hit 1 if striker=2 and struck=1 and round=1");
         Edge.due("behind one round", x.best(1, 0), 0);
         Edge.due("0 is as good as 1", x.best(2, 0), 0);
@@ -173,8 +167,8 @@ public final class AheadEdgesTest {
         x.round();
         Edge.due("0 is smashed now", x.best(1, 0), 1);
         Edge.due("how many", x.best(1, 1), 2);
-        Edge.due("none is as good as any", ruled(QUIET, "hit 0").best(40, 0), NONE);
-        Edge.due("how many", ruled(QUIET, "hit 0").best(40, 1), 2);
+        Edge.due("none is as good as any", Due.under(QUIET, "hit 0").best(40, 0), NONE);
+        Edge.due("how many", Due.under(QUIET, "hit 0").best(40, 1), 2);
     }
 
     private static void bestWrong() {
@@ -201,7 +195,7 @@ public final class AheadEdgesTest {
         hardsOf(Due.with("yard 1;conker 30 1 0;cracked 0 29"), 0, 1, 30);
         hardsOf(Due.with("yard 1;conker 9 1 0;cracked 0 8;cracked 0 0"), 0, 30, 1);
         // 9 cracks told and 20 more by one strike
-        ConkerYard x = ruled("yard 1;conker 10 1 0;conker 30 20 0;cracked 0 9", "hit 1 if striker = 1");
+        ConkerYard x = Due.under("yard 1;conker 10 1 0;conker 30 20 0;cracked 0 9", "hit 1 if striker = 1");
         x.note(0, 0, 1);
         hardsOf(x, 0, 1, 30);
         x.note(NONE, 0, 0);
@@ -212,7 +206,7 @@ public final class AheadEdgesTest {
         hardsOf(x, 0, 0, -2);
         hardsOf(x, 1, 0, -2);
         Edge.says("all else as the text told it");
-        ConkerYard told = ruled("yard 1;conker 10 1 0;conker 30 20 0;cracked 0 9", "hit 1 if striker = 1");
+        ConkerYard told = Due.under("yard 1;conker 10 1 0;conker 30 20 0;cracked 0 9", "hit 1 if striker = 1");
         told.note(0, 0, 1);
         told.mend(0);
         told.string(1, 1);
@@ -245,7 +239,7 @@ public final class AheadEdgesTest {
     }
 
     private static int swingsOf(String text, int whole) {
-        ConkerYard x = ruled(text, "hit 1 if striker = 1");
+        ConkerYard x = Due.under(text, "hit 1 if striker = 1");
         x.note(0, 0, whole);
         return x.swings(1);
     }
@@ -261,7 +255,7 @@ public final class AheadEdgesTest {
         Edge.due("none", swingsOf("yard 1;conker 1 1 0;conker 30 1 0", 1), 0);
         Edge.due("none", swingsOf("yard 1;conker 21 1 0;conker 30 1 0", 0), 0);
         Edge.due("with the cracks told", swingsOf("yard 1;conker 21 1 0;conker 30 1 0;cracked 0 1", 0), 1 << 20);
-        ConkerYard x = ruled("yard 1;conker 20 1 0;conker 30 1 0", "hit 1 if striker = 1");
+        ConkerYard x = Due.under("yard 1;conker 20 1 0;conker 30 1 0", "hit 1 if striker = 1");
         x.note(0, 0, 0);
         x.string(1, 20);
         x.round();
@@ -272,30 +266,30 @@ public final class AheadEdgesTest {
     private static void rests() {
         Edge.says("RESTS of two that are WHOLE for n ROUNDS (1 to 20): each has SWING 4, 8, 12 or 16 from now on");
         // 0 can smash 1 of 9 by 12 or 16, in round 19 alone
-        ConkerYard x = ruled("yard 1;conker 30 1 0;conker 9 1 3", "hit 1 if round = 19 and striker = 0");
+        ConkerYard x = Due.under("yard 1;conker 30 1 0;conker 9 1 3", "hit 1 if round = 19 and striker = 0");
         Edge.due("rests(0, 1, 19, 0)", x.rests(0, 1, 19, 0), 16);
         Edge.due("rests(0, 1, 20, 0)", x.rests(0, 1, 20, 0), 8);
         Edge.due("rests(0, 1, 20, 1)", x.rests(0, 1, 20, 1), 12);
         Edge.due("rests(0, 1, 20, 2)", x.rests(0, 1, 20, 2), 4);
-        ConkerYard now = ruled("yard 1;conker 30 1 0;conker 9 1 3", "hit 1 if round = 0 and striker = 0");
+        ConkerYard now = Due.under("yard 1;conker 30 1 0;conker 9 1 3", "hit 1 if round = 0 and striker = 0");
         Edge.due("rests(0, 1, 1, 0)", now.rests(0, 1, 1, 0), 8);
-        ConkerYard sixteen = ruled("yard 1;conker 30 1 0;conker 16 1 3", "hit 1 if striker = 0");
+        ConkerYard sixteen = Due.under("yard 1;conker 30 1 0;conker 16 1 3", "hit 1 if striker = 0");
         Edge.due("16 alone", sixteen.rests(0, 1, 1, 0), 4);
         Edge.due("16", sixteen.rests(0, 1, 1, 1), 16);
-        ConkerYard four = ruled("yard 1;conker 30 1 0;conker 4 1 3", "hit 1 if striker = 0");
+        ConkerYard four = Due.under("yard 1;conker 30 1 0;conker 4 1 3", "hit 1 if striker = 0");
         Edge.due("4 does", four.rests(0, 1, 1, 0), 16);
-        ConkerYard eight = ruled("yard 1;conker 30 1 0;conker 8 1 3", "hit 1 if striker = 0");
+        ConkerYard eight = Due.under("yard 1;conker 30 1 0;conker 8 1 3", "hit 1 if striker = 0");
         Edge.due("8 does", eight.rests(0, 1, 1, 0), 12);
         Edge.due("8", eight.rests(0, 1, 1, 1), 8);
         Edge.says("twos of which neither would have more by another one: how many; the first (by the first one, then the second one)");
         Edge.due("by the second one", eight.rests(1, 0, 1, 1), 4);
         Edge.due("by the second one", eight.rests(1, 0, 1, 2), 8);
-        Edge.due("all", ruled(QUIET, "hit 0").rests(0, 1, 1, 0), 16);
-        Edge.due("the first", ruled(QUIET, "hit 0").rests(0, 1, 1, 1), 4);
-        Edge.due("the first", ruled(QUIET, "hit 0").rests(0, 1, 1, 2), 4);
+        Edge.due("all", Due.under(QUIET, "hit 0").rests(0, 1, 1, 0), 16);
+        Edge.due("the first", Due.under(QUIET, "hit 0").rests(0, 1, 1, 1), 4);
+        Edge.due("the first", Due.under(QUIET, "hit 0").rests(0, 1, 1, 2), 4);
         Edge.says("RESTS what 0: how many, 1, 2: SWINGS of the first (-2: there is none).");
         // who swings most is struck; see PromisesTest
-        ConkerYard none = ruled("yard 1;conker 2 8 4;conker 5 7 4;conker 2 7 3", "hit blow");
+        ConkerYard none = Due.under("yard 1;conker 2 8 4;conker 5 7 4;conker 2 7 3", "hit blow");
         Edge.due("none", none.rests(0, 1, 1, 0), 0);
         Edge.due("none", none.rests(0, 1, 1, 1), -2);
         Edge.due("none", none.rests(0, 1, 1, 2), -2);

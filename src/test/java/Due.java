@@ -78,6 +78,13 @@ final class Due {
         return yard;
     }
 
+    /** A yard with one rule, which is in force. */
+    static ConkerYard under(String text, String rule) {
+        ConkerYard yard = with(text, rule);
+        yard.force(0);
+        return yard;
+    }
+
     /** What a text with a fault answers. */
     static int fault(int place, int kind) {
         return -2 - (1 + 8 * place + kind);

@@ -28,12 +28,6 @@ public final class NoteEdgesTest {
         Edge.close("NoteEdgesTest");
     }
 
-    private static ConkerYard ruledBy(String text, String rule) {
-        ConkerYard x = Due.with(text, rule);
-        x.force(0);
-        return x;
-    }
-
     private static ConkerYard tenNotes() {
         ConkerYard x = Edge.busy();
         for (int i = 0; i < 8; i++) {
@@ -84,7 +78,7 @@ public final class NoteEdgesTest {
     private static void noteRounds() {
         Edge.says("behind the n-th ROUND of all (0 to 60)");
         for (int round : new int[] {0, 1, 59, 60}) {
-            ConkerYard x = ruledBy(STRONG, "hit 1 if round = " + round);
+            ConkerYard x = Due.under(STRONG, "hit 1 if round = " + round);
             x.note(round, 1, 0);
             Edge.due("smashed in round " + round, x.hards(1, 0), 9);
             Edge.due("smashed in round " + round, x.ruled(0), 2);
@@ -95,7 +89,7 @@ public final class NoteEdgesTest {
                 Edge.due("and not before", x.swings(0), (1 << 21) - (1 << 9));
             }
         }
-        ConkerYard late = ruledBy(STRONG, "hit 1 if round = 61");
+        ConkerYard late = Due.under(STRONG, "hit 1 if round = 61");
         late.note(60, 1, 0);
         Edge.due("not yet", late.hards(1, 0), 0);
         Edge.due("not yet", late.ruled(1), NONE);
@@ -240,7 +234,7 @@ public final class NoteEdgesTest {
 
     /** The first DRAW mod 100 from a number on, found by frost upon a single conker. */
     private static int firstDraw(int seed) {
-        ConkerYard x = ruledBy("yard 1;conker 9 1 0", "hit 0");
+        ConkerYard x = Due.under("yard 1;conker 9 1 0", "hit 0");
         x.seed(seed);
         int percent = 0;
         while (percent < 100 && x.frost(1, 1, percent + 1, 1) == 0) {
@@ -289,17 +283,17 @@ public final class NoteEdgesTest {
         Edge.due("there are none", Due.with("yard 1").frost(10, 60, 100, 0), 0);
         Edge.due("there are none", Due.with("yard 1").frost(10, 60, 100, 1), 0);
         // 21468 mod 2 is 0, and so is mod 3; mod 8 it is 4
-        ConkerYard first = ruledBy("yard 1;conker 1 1 0;conker 9 1 0", "hit 0");
+        ConkerYard first = Due.under("yard 1;conker 1 1 0;conker 9 1 0", "hit 0");
         first.bout(1, 0);
         Edge.due("of all that were told, whole or not: the smashed one", first.frost(1, 1, 100, 1), 0);
         Edge.due("one is whole", first.frost(1, 1, 100, 0), 1);
-        ConkerYard other = ruledBy("yard 1;conker 9 1 0;conker 1 1 0", "hit 0");
+        ConkerYard other = Due.under("yard 1;conker 9 1 0;conker 1 1 0", "hit 0");
         other.bout(0, 1);
         Edge.due("the whole one", other.frost(1, 1, 100, 1), 2);
-        ConkerYard eight = ruledBy("yard 1" + ";conker 1 1 0".repeat(4) + ";conker 9 1 0" + ";conker 1 1 0".repeat(3), "hit 0");
+        ConkerYard eight = Due.under("yard 1" + ";conker 1 1 0".repeat(4) + ";conker 9 1 0" + ";conker 1 1 0".repeat(3), "hit 0");
         Edge.due("the fifth of eight", eight.frost(1, 1, 100, 1), 2);
         // a quiet round first: from 12345 on 68, 88, 17 and 3498 mod 2, that is 0
-        ConkerYard quiet = ruledBy(QUIET, "hit 0");
+        ConkerYard quiet = Due.under(QUIET, "hit 0");
         quiet.seed(12345);
         Edge.due("no frost yet", quiet.frost(1, 2, 60, 1), 0);
         Edge.due("frost in the third round, behind two in which nothing was", quiet.frost(1, 3, 60, 1), 2);
@@ -323,7 +317,7 @@ public final class NoteEdgesTest {
         Edge.due("DRAWS go on from time to time", one.frost(1, 1, 50, 1), 2);
         Edge.due("DRAWS go on from time to time", one.frost(2, 1, 50, 1), 2);
         Edge.due("DRAWS go on from time to time", one.frost(3, 1, 50, 1), 4);
-        ConkerYard late = ruledBy("yard 1;conker 9 9 0;conker 9 1 0", "hit 1 if round = 59");
+        ConkerYard late = Due.under("yard 1;conker 9 9 0;conker 9 1 0", "hit 1 if round = 59");
         Edge.due("59 rounds", late.frost(1, 59, 0, 0), 2);
         Edge.due("60 rounds", late.frost(1, 60, 0, 0), 1);
         Edge.due("ten times 60 rounds", late.frost(10, 60, 0, 0), 10);

@@ -56,9 +56,7 @@ public final class TextEdgesTest {
 
     /** Who strikes first by a rule, of two alike. */
     private static int struckBy(String rule) {
-        ConkerYard x = Due.with("yard 1;conker 30 1 0;conker 30 1 0", rule);
-        x.force(0);
-        return x.round();
+        return Due.under("yard 1;conker 30 1 0;conker 30 1 0", rule).round();
     }
 
     private static void fresh() {
