@@ -19,6 +19,7 @@ public final class TextEdgesTest {
         numbers();
         words();
         blanks();
+        wordValues();
         reckoning();
         depth();
         parts();
@@ -213,6 +214,22 @@ public final class TextEdgesTest {
         yardFault("yardconker", 0, 0);
         yardFault("yar", 0, 0);
         fine("hit1if striker<0or struck<0");
+    }
+
+    /** Two are left of three, and it is round 1: each word has a value that no other one has beside it. */
+    private static void wordValues() {
+        Edge.says("of a CONKER that strikes first at another one, both WHOLE");
+        String rule = "hit 1 if striker=2 and struck=1 and hard=21 and swing=5 and cracks=3 and score=7 and armour=29"
+            + " and blow=6 and gaps=4 and worth=11 and whole=2 and strikes=8 and round=1";
+        ConkerYard x = Due.under("yard 8;conker 1 1 9;conker 20 6 1;conker 21 5 7;cracked 1 5;cracked 2 4", rule);
+        x.bout(1, 0);
+        x.pickle(1, 9);
+        Edge.due("not in round 0", x.round(), -2);
+        Edge.due("in round 1", x.round(), 2);
+        ConkerYard smashed = Due.under("yard 1;conker 9 9 0;conker 1 1 0;conker 9 9 0", "hit 9 if striker=1 or struck=1;hit 1");
+        smashed.bout(0, 1);
+        Edge.due("not one that is smashed", smashed.round(), 0);
+        Edge.due("but the one that is whole", smashed.count(5), 1);
     }
 
     private static void blanks() {
