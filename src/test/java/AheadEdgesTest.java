@@ -336,6 +336,7 @@ public final class AheadEdgesTest {
         parts("yard 1;conker 9 1 0;conker 9 1 7", 9, 0, 9);
         parts(QUIET, 9999, 0, 0);
         parts("yard 1;conker 9 1 20", 9999, 9999);
+        parts("yard 1;conker 9 1 0;conker 9 1 1", 9999, 0, 9999);
         Edge.says("PENCE of a CONKER (0, if it is not WHOLE); NONE without these.");
         ConkerYard x = Due.with("yard 1;conker 1 1 3;conker 9 1 1;conker 9 1 4");
         Edge.due("all whole", x.pence(8, 0), 3);

@@ -160,6 +160,10 @@ public final class AsItIsEdgesTest {
         won("yard 1" + ";conker 9 1 0".repeat(7) + ";conker 30 20 0", 0, 0, 0, 0, 0, 0, 0, 315);
         // 2 smashes 0, 0 goes on ahead of 1 and 1 ahead of 2; 3 is smashed by all
         won("yard 1;conker 5 4 0;conker 9 4 0;conker 9 5 0;conker 1 1 0", 1, 1, 1, 0);
+        ConkerYard again = Due.with(ALL);
+        Edge.due("cups(0)", again.cups(0), 315);
+        Edge.due("cups(0), asked again", again.cups(0), 315);
+        Edge.due("cups(NONE), asked again", again.cups(NONE), 315);
         Edge.says("how many of these that CONKER is the last of (0, if it is not WHOLE; -2: there is none such)");
         ConkerYard two = Due.with("yard 1;conker 1 1 0;conker 9 1 0;conker 9 1 0");
         two.bout(2, 0);

@@ -157,9 +157,13 @@ public final class NoteEdgesTest {
         ConkerYard alike = Due.with(QUIET, "hit 0");
         Edge.due("all alike: the least", alike.look(0, 0), 0);
         Edge.due("all alike: how many", alike.look(0, 1), 2);
+        Edge.due("asked again", alike.look(0, 0), 0);
         ConkerYard parted = Due.with(STRONG, "hit 0");
         Edge.due("1 parts them", parted.look(0, 0), 1);
         Edge.due("one each", parted.look(0, 1), 1);
+        ConkerYard first = Due.with("yard 1;conker 9 1 0;conker 9 9 0", "hit 0");
+        Edge.due("0 parts them", first.look(0, 0), 0);
+        Edge.due("one each", first.look(0, 1), 1);
         // 0 smashes 1 by none, 2 by the first rule, 3 by the second and third, nobody by the last
         ConkerYard five = Due.with("yard 1;conker 9 9 0;conker 9 1 0;conker 9 1 0;conker 9 1 0",
             "hit 1 if striker=0 and struck=2", "hit 1 if striker=0 and struck=3", "hit 2 if striker=0 and struck=3", "hit 0");
@@ -448,5 +452,14 @@ public final class NoteEdgesTest {
         x.note(NONE, 0, 0);
         Edge.due("the text is the one that was: above 2 cracks", x.hards(1, 1), 3);
         Edge.due("the rules stay", x.force(2), 1);
+        // of the notes each part is another one now
+        ConkerYard notes = Edge.busy();
+        notes.note(NONE, 0, 0);
+        notes.note(60, 3, 1);
+        notes.note(60, 0, 0);
+        Edge.due("by no rule", notes.ruled(0), 0);
+        notes.back(3);
+        Edge.due("the notes are those that were", notes.ruled(0), 1);
+        Edge.due("the notes are those that were", notes.ruled(1), 0);
     }
 }

@@ -209,6 +209,8 @@ public final class TextEdgesTest {
         ruleFault("hit hardD", 8, 0);
         ruleFault("hit har", 4, 0);
         ruleFault("hit hardh", 4, 0);
+        ruleFault("hita 1", 0, 0);
+        ruleFault("hitz 1", 0, 0);
         ruleFault("hit`", 3, 0);
         ruleFault("hit{", 3, 0);
         yardFault("yardconker", 0, 0);
@@ -316,6 +318,10 @@ public final class TextEdgesTest {
         String facts = "hit 1 if 1=1" + " or 1=1".repeat(18);
         fine(facts + ";hit 1+1");
         fine(facts + ";hit hard;hit hard");
+        ConkerYard x = new ConkerYard();
+        for (int rule = 0; rule < 6; rule++) {
+            Edge.due("sixty in each rule", Due.rule(x, SIXTY), rule);
+        }
         Edge.says("one VALUE or FACT too many (at its first byte; of a FACT at its SIGN)");
         ruleFault(SIXTY + " + 1", SIXTY.length() + 3, 3);
         ruleFault(SIXTY + "+hard", SIXTY.length() + 1, 3);
@@ -367,7 +373,10 @@ public final class TextEdgesTest {
         ruleFault("hit 1+", 6, 0);
         ruleFault("hit [1=1]", 4, 0);
         ruleFault("hit not 1=1", 4, 0);
-        ruleFault("hit cracked", 4, 0);
+        for (String word : new String[] {"yard", "conker", "cracked", "hit", "if", "not", "and", "or"}) {
+            ruleFault("hit " + word, 4, 0);
+            ruleFault("hit 1 if 1 < " + word, 13, 0);
+        }
         ruleFault("yard 1", 0, 0);
     }
 
