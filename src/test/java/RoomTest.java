@@ -1,4 +1,11 @@
 import java.lang.management.ManagementFactory;
+import java.lang.reflect.Array;
+import java.lang.reflect.Field;
+import java.lang.reflect.Modifier;
+import java.util.ArrayDeque;
+import java.util.Collections;
+import java.util.IdentityHashMap;
+import java.util.Set;
 
 /** Calls make no objects: what a run needs is made with the yard, and that is little. */
 public final class RoomTest {
@@ -7,7 +14,7 @@ public final class RoomTest {
 
     private static int answers = 0;
 
-    public static void main(String[] args) {
+    public static void main(String[] args) throws IllegalAccessException {
         String text = "yard 9" + ";conker 30 1 20".repeat(8) + ";cracked 0 1";
         String rule = "hit striker*struck+hard-swing+cracks*score if [not [armour<0] and blow>0] or gaps=1;hit worth";
         ConkerYard x = Due.with(text, rule, rule, rule, rule);
@@ -25,7 +32,46 @@ public final class RoomTest {
         made = allocated() - before;
         Due.holds("bytes that a new object made: " + made, made < 100000 && one.count(0) == 0);
         Due.holds("answers", answers != 0);
+        count(x);
         Due.close("RoomTest");
+    }
+
+    /** The room is told in objects and in fields and elements: a yard that was used takes a small part of either. */
+    private static void count(ConkerYard yard) throws IllegalAccessException {
+        Set<Object> seen = Collections.newSetFromMap(new IdentityHashMap<>());
+        ArrayDeque<Object> open = new ArrayDeque<>();
+        open.add(yard);
+        int parts = 0;
+        while (!open.isEmpty()) {
+            Object one = open.remove();
+            if (seen.add(one)) {
+                parts += one.getClass().isArray() ? elements(one, open) : fields(one, open);
+            }
+        }
+        Due.holds("objects and arrays of a yard: " + seen.size(), seen.size() <= 300);
+        Due.holds("fields and elements of a yard: " + parts, parts <= 10000);
+    }
+
+    private static int elements(Object array, ArrayDeque<Object> open) {
+        int length = Array.getLength(array);
+        for (int i = 0; i < length && !array.getClass().getComponentType().isPrimitive(); i++) {
+            open.add(Array.get(array, i));
+        }
+        return length;
+    }
+
+    private static int fields(Object one, ArrayDeque<Object> open) throws IllegalAccessException {
+        int many = 0;
+        for (Field field : one.getClass().getDeclaredFields()) {
+            if (!Modifier.isStatic(field.getModifiers())) {
+                many++;
+                field.setAccessible(true);
+                if (!field.getType().isPrimitive()) {
+                    open.add(field.get(one));
+                }
+            }
+        }
+        return many;
     }
 
     private static long allocated() {
