@@ -10,6 +10,7 @@ public final class AheadEdgesTest {
     public static void main(String[] args) {
         ahead();
         aheadWrong();
+        waiting();
         smashed();
         alone();
         best();
@@ -68,6 +69,26 @@ public final class AheadEdgesTest {
         }
         Edge.stays(Edge::busy, "of one that is smashed: score", 0, x -> x.ahead(1, 3, 1));
         Edge.stays(Edge::busy, "of one that is smashed: cracks", 6, x -> x.ahead(1, 3, 2));
+    }
+
+    /** Nobody strikes till the last crack is healed. */
+    private static void waiting() {
+        Edge.says("All CONKERS that are WHOLE and had no BOUT in it have 1 of their CRACKS less (0 at least).");
+        for (int cracks = 0; cracks <= 3; cracks++) {
+            ConkerYard x = Due.under("yard 1;conker 9 9 0;conker 9 1 0;cracked 1 " + cracks, "hit 1 if cracks+gaps=0");
+            String after = " behind " + cracks + " quiet rounds";
+            Edge.due("smashed(1)" + after, x.smashed(1), cracks);
+            Edge.due("alone()" + after, x.alone(), cracks);
+            Edge.due("both" + after, x.ahead(0, cracks, 0), 3);
+            Edge.due("one in the round" + after, x.ahead(0, cracks + 1, 0), 1);
+            Edge.due("who had best be pickled" + after, x.best(cracks + 1, 0), 1);
+            x.note(cracks, 1, 0);
+            Edge.due("so by the rule, and by none, which has 0 strike at once", x.ruled(0), 2);
+            if (cracks > 0) {
+                x.note(cracks - 1, 1, 1);
+                Edge.due("so by the rule alone", x.ruled(1), 0);
+            }
+        }
     }
 
     private static void smashed() {

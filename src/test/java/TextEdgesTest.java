@@ -194,6 +194,15 @@ public final class TextEdgesTest {
         ruleFault("hit 12 3", 7, 0);
         Edge.due("five digits", Due.with("yard 00009").count(0), 9);
         yardFault("yard 000009", 5, 1);
+        yardFault("yard 1;conker 000009 1 0", 14, 1);
+        yardFault("yard 1;conker 9 000001 0", 16, 1);
+        yardFault("yard 1;conker 9 1 000000", 18, 1);
+        yardFault("yard 1;conker 9 1 0;cracked 000000 0", 28, 1);
+        yardFault("yard 1;conker 9 1 0;cracked 0 000000", 30, 1);
+        ConkerYard five = Due.with("yard 00001;conker 00009 00002 00003;cracked 00000 00008");
+        for (int what = 0; what < 4; what++) {
+            Edge.due("five digits each, what " + what, five.conker(0, what), new int[] {9, 2, 8, 3}[what]);
+        }
         yardFault("yard 1 2", 7, 0);
         fine("hit 5if 1<2and 2<3");
     }
